@@ -1178,12 +1178,9 @@ public final class RationOffice {
         }
 
         boolean isName() {
-            return kind == WORD && end - start <= NAME_LETTERS && !isStatementWord() && settingWord() < 0;
-        }
-
-        private boolean isStatementWord() {
-            return isWord("group") || isWord("swap") || isWord("good") || isWord("house") || isWord("shop")
-                || isWord("set");
+            return kind == WORD && end - start <= NAME_LETTERS
+                && !isWord("group") && !isWord("swap") && !isWord("good") && !isWord("house") && !isWord("shop")
+                && !isWord("set") && !isWord("give") && !isWord("take") && !isWord("tolerance");
         }
 
         /** The setting of which the token is the name. */

@@ -88,9 +88,19 @@ public final class LoadTest {
         x.nextPeriod();
         check.due("undoCount", x.undoCount(), 5);
         String text = "group new 7 3 1;good n new 2 2;house o 3;house p 1;shop q;";
-        check.due("load", Texts.load(x, text), 5);
+        for (int times = 0; times < 3; times++) {
+            check.due("load", Texts.load(x, text), 5);
+            allIsNew(x);
+        }
+        check.due("load of blanks", Texts.load(x, " \n\n  "), 0);
+        check.due("goods", x.goodCount(), 0);
+        check.due("the whole again", Texts.load(x, text), 5);
+        allIsNew(x);
+    }
+
+    private static void allIsNew(RationOffice x) {
         check.due("period", x.period(), 0);
-        check.due("undoCount then", x.undoCount(), 0);
+        check.due("undoCount", x.undoCount(), 0);
         check.due("undo", x.undo(), RationOffice.NOT_FOUND);
         check.due("give", x.getSetting(RationOffice.GIVE), 20);
         check.due("take", x.getSetting(RationOffice.TAKE), 20);
@@ -110,11 +120,6 @@ public final class LoadTest {
         check.due("coupons", x.coupons(0, 0), 21);
         check.due("coupons with 3 left", x.couponsWith(0, 0, 3), 21);
         check.due("a name that is gone", x.groupNamed(Texts.letters("pay")), RationOffice.NOT_FOUND);
-        check.due("load of blanks", Texts.load(x, " \n\n  "), 0);
-        check.due("goods", x.goodCount(), 0);
-        check.due("the whole again", Texts.load(x, text), 5);
-        check.due("stock again", x.stockOf(0, 0), 0);
-        check.due("coupons again", x.coupons(0, 0), 21);
     }
 
     private static void loadKeepsAllOnError() {
@@ -200,6 +205,7 @@ public final class LoadTest {
         error(x, GROUP + "good g pay 1 1;shop s g 3", RationOffice.SYNTAX_ERROR, 42);
         error(x, "set gives 3;", RationOffice.SYNTAX_ERROR, 4);
         error(x, "set 3;", RationOffice.SYNTAX_ERROR, 4);
+        error(x, "set;", RationOffice.SYNTAX_ERROR, 3);
         error(x, "set give;", RationOffice.SYNTAX_ERROR, 8);
         error(x, "set give give;", RationOffice.SYNTAX_ERROR, 9);
     }
