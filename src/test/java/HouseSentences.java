@@ -295,9 +295,19 @@ final class HouseSentences {
         s.due("it gives as many as another one", x.helpers(0, 0, 1 + 5 + 4 + 3 + 3), 4);
         s.due("all together", x.helpers(0, 0, 1 + 5 + 4 + 3 + 3 + 2), 5);
         s.due("one more", x.helpers(0, 0, 1 + 5 + 4 + 3 + 3 + 2 + 1), NOT_FOUND);
+        s.due("for the last house, the others", x.helpers(5, 0, 9 + 5 + 4 + 3 + 2), 4);
+        s.due("for the last house, the first one too", x.helpers(5, 0, 9 + 5 + 4 + 3 + 2 + 1), 5);
+        s.due("for the last house, no more", x.helpers(5, 0, 9 + 5 + 4 + 3 + 2 + 1 + 1), NOT_FOUND);
         x.setSetting(RationOffice.GIVE, 2);
         s.due("house 5 may give none now", x.helpers(0, 0, 1 + 2 * 4), 4);
         s.due("two from each of four", x.helpers(0, 0, 1 + 2 * 4 + 1), NOT_FOUND);
+        RationOffice two = Texts.office("group a 9 1 0;house h 1;house i 1;");
+        s.due("the first one gives", two.helpers(1, 0, 18), 1);
+        s.due("the second one gives", two.helpers(0, 0, 18), 1);
+        s.due("it has no more", two.helpers(1, 0, 19), NOT_FOUND);
+        RationOffice down = Texts.office("group a 1 1 0;house h 9;house i 4;house j 3;house k 1;");
+        s.due("the first one gives the most", down.helpers(3, 0, 1 + 9), 1);
+        s.due("the second one too", down.helpers(3, 0, 1 + 9 + 4), 2);
         s.says("Returns the number of houses, 0 if it holds as many already;");
         s.due("as many", x.helpers(5, 0, 9), 0);
         s.due("more", x.helpers(5, 0, 8), 0);
@@ -340,6 +350,20 @@ final class HouseSentences {
 
     private void accountOf() {
         s.section("Promise 29");
+        s.says("Returns the account of a shop for a group.");
+        RationOffice x = Texts.office("group a 9 1 0;group b 9 1 0;group c 9 1 0;group d 9 1 0;good e a 1 1;good f b 2 1;"
+            + "good g c 3 1;good h d 4 1;house i 9;shop s e 9 f 9 g 9 h 9;shop t e 9 f 9 g 9 h 9;shop u e 9 f 9 g 9 h 9;"
+            + "shop v e 9 f 9 g 9 h 9;");
+        for (int shop = 0; shop < 4; shop++) {
+            for (int group = 0; group < 4; group++) {
+                x.buy(0, shop, group, shop + 1);
+            }
+        }
+        for (int shop = 0; shop < 4; shop++) {
+            for (int group = 0; group < 4; group++) {
+                s.due("account of shop " + shop + " for group " + group, x.accountOf(shop, group), (shop + 1) * (group + 1));
+            }
+        }
         s.says("Throws `IndexOutOfBoundsException` if shop or group is not a valid index");
         s.index("shop of 4", 4, shop -> full.accountOf(shop, 3));
         s.index("group of 4", 4, group -> full.accountOf(3, group));

@@ -378,6 +378,10 @@ final class OfficeSentences {
             s.due("the substitute is gone", x.coupons(0, 1), 0);
             s.due("spent", x.spent(0) * 100 + x.spent(1), 1018);
         }
+        RationOffice first = Texts.office("group a 8 1 0;group b 3 1 0;swap b a 4;good g b 1 1;house h 1;shop s g 99;");
+        s.due("the first group as a substitute, 3 lacking", first.buy(0, 0, 0, 6), LACKING);
+        s.due("the first group as a substitute, 2 lacking", first.buy(0, 0, 0, 5), 0);
+        s.due("the first group", first.coupons(0, 0), 0);
         RationOffice y = Texts.office("group a 9 1 0;group b 17 1 0;swap a b 9;good g a 5 1;house h 1;shop s g 99;");
         s.due("one lacking", y.buy(0, 0, 0, 2), 0);
         s.due("one coupon over for the next", y.coupons(0, 1), 8);

@@ -114,7 +114,8 @@ final class ShopSentences {
     private void mostUnits() {
         s.section("Promise 40");
         s.says("Returns the greatest number of units of a good that a house can buy in a shop now.");
-        RationOffice[] offices = {Towns.full(), Towns.used(), Towns.lives(50)};
+        RationOffice[] offices = {Towns.full(), Towns.used(), Towns.lives(50), Texts.office("group a 8 1 0;group b 3 1 0;"
+            + "swap b a 3;good g b 1 1;good i b 2 1;house h 1;house j 2;shop s g 99 i 99;shop t g 5 i 5;")};
         for (RationOffice x : offices) {
             for (int house = 0; house < x.houseCount(); house++) {
                 for (int shop = 0; shop < x.shopCount(); shop++) {
@@ -310,6 +311,11 @@ final class ShopSentences {
         s.due("cost", x.basketCost(0, 0), 1599);
         s.due("the second good", x.basketUnits(0, 0, 1), 399);
         s.due("left of its group", x.basketLeft(0, 0, 1), 1);
+        Texts.load(x, "group a 9 1 0;good e a 2 3;good f a 3 4;house k 1;shop s e 2 f 9;");
+        s.due("value of a later text", x.basketValue(0, 0), 3 * 4);
+        s.due("cost of a later text", x.basketCost(0, 0), 9);
+        Texts.load(x, "group a 9 1 0;house k 1;shop s;");
+        s.due("value without goods", x.basketValue(0, 0), 0);
     }
 
     private void basketUnits() {

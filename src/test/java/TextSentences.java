@@ -141,6 +141,11 @@ final class TextSentences {
         s.error("set house 1;", SYNTAX, 4);
         s.error("set tolera 1;", SYNTAX, 4);
         s.error("set tolerances 1;", SYNTAX, 4);
+        for (String word : RESERVED) {
+            s.error("x" + word.substring(1) + " a 1;", SYNTAX, 0);
+            s.error(word.substring(0, word.length() - 1) + "x a 1;", SYNTAX, 0);
+            s.error("set x" + word.substring(1) + " 1;", SYNTAX, 4);
+        }
     }
 
     private void names() {
@@ -334,6 +339,13 @@ final class TextSentences {
         s.error(START + "shop z g 1 g 1;", DUPLICATE, at + 11);
         s.error(START + "shop z g 1 i 1 g 1;", DUPLICATE, at + 15);
         s.error(START + "shop z g 0 g", DUPLICATE, at + 11);
+        String six = "group a 1 1 1;good b a 1 1;good c a 1 1;good d a 1 1;good e a 1 1;good f a 1 1;good g a 1 1;"
+            + "shop s g 1 f 1 e 1 d 1 c 1 b 1 ";
+        s.loads(six + ";", 8);
+        s.error(six + "g 1;", DUPLICATE, six.length());
+        s.error(six + "b 1;", DUPLICATE, six.length());
+        s.error(six + "a 1;", NAME, six.length());
+        s.error(six + "group 1;", SYNTAX, six.length());
         s.loads(START + "shop z g 1;shop y g 1;", 8);
         s.error("set give 1;set give 1;", DUPLICATE, 15);
         s.error("set take 20;set give 1;set take 20;", DUPLICATE, 27);
@@ -436,6 +448,23 @@ final class TextSentences {
         s.due("the buffer is empty", x.load(1), BAD_VALUE);
         s.due("load of nothing", x.load(0), 0);
         s.due("no houses", x.houseCount(), 0);
+        String again = Towns.FULL + "set give 5;set take 6;set tolerance 7;";
+        String fresh = Tell.all(Texts.office(again));
+        for (int times = 0; times < 4; times++) {
+            s.due("load again", Texts.load(x, again), 25);
+            s.same("as a new one", Tell.all(x), fresh);
+            x.nextPeriod();
+            x.buy(5, 0, 2, 20);
+            x.deliver(0, 2, 9);
+            x.trade(5, 0, 0, 3);
+            x.audit(0, 0, 1);
+        }
+        for (int times = 0; times < 3; times++) {
+            Texts.load(x, "group a 1 1 1;group b 1 1 1;good g a 1 1;house h 1;shop s;");
+            s.due("no substitute from before", x.groupProperty(0, 3), NOT_FOUND);
+            s.due("no factor from before", x.groupProperty(0, 4), 0);
+            s.due("no settings from before", x.getSetting(RationOffice.TOLERANCE), 10);
+        }
         Texts.load(x, Towns.FULL);
         s.same("as a new one", Tell.all(x), Tell.all(Towns.full()));
         s.due("issued", x.issued(0), 5 * 24);
