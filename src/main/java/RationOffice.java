@@ -1073,7 +1073,7 @@ public final class RationOffice {
         /** Adds in lots of 1, 2, 4 and so on, and the rest: they make up every number of units with few passes. */
         private void addUnits(int good, int most, int rate, int worth, int held) {
             int rest = most;
-            for (int lot = 1; lot <= most; lot *= 2) {
+            for (int lot = 1; lot <= most && lot <= MAX_BASKET_COUPONS; lot *= 2) {
                 int count = Math.min(lot, rest);
                 addLot(best[good], count * rate, count * worth, held);
                 rest -= count;

@@ -25,6 +25,7 @@ public final class LanguageTest {
         check.due("no static field that is not final",
             Pattern.compile("static (?!final)[\\w\\[\\]]+ \\w+( =|;)").matcher(code).find(), false);
         imports(code);
+        growingLoops(code);
         sizes(code);
         check.finish();
     }
@@ -34,6 +35,14 @@ public final class LanguageTest {
         while (matcher.find()) {
             check.due(matcher.group(1) + " is allowed", List.of("java.util.Arrays", "java.util.ArrayList",
                 "java.util.List", "java.util.NoSuchElementException").contains(matcher.group(1)), true);
+        }
+    }
+
+    /** A counter that is multiplied would jump over a bound that nobody knows, so its bound must be a constant. */
+    private static void growingLoops(String code) {
+        Matcher matcher = Pattern.compile("for \\([^;]*;([^;]*);[^;{]*(\\*=|<<=)").matcher(code);
+        while (matcher.find()) {
+            check.due("a constant bounds " + matcher.group(), matcher.group(1).contains("MAX_"), true);
         }
     }
 
